@@ -201,7 +201,10 @@ public final class PolicyRack {
         }
 
         void addLast(int key) {
-            insert(size, key);
+            if (size < keys.length) {
+                keys[size] = key;
+                size++;
+            }
         }
 
         void insert(int i, int key) {
@@ -686,7 +689,7 @@ public final class PolicyRack {
             return leaver;
         }
 
-        // ONCE is all that may be kept of it, so what goes leaves no ghost
+        // no ghost of it: ONCE and its ghosts together may be c at most
         private int replaceFirstOfOnce(int key) {
             int leaver = once.removeFirst();
             once.addLast(key);

@@ -24,6 +24,7 @@ public final class PromisesTest {
         promise4PutQueues();
         promise4PutLists();
         promise4PutListsTarget();
+        promise4PutListsJustTarget();
         promise4PutWrong();
         promise5Drop();
         promise5DropOfLists();
@@ -223,6 +224,11 @@ public final class PromisesTest {
         dueGone("CLOCK all marked, then the hand's", putAll(rack, 8), 2);
         CHECK.due("4 CLOCK hand goes on", () -> rack.told(0, 7), 2);
         dueGone("CLOCK no mark left", putAll(rack, 9, 10, 11), 7, 6, 8);
+        PolicyRack freed = rackWith(CLOCK, 2);
+        putAll(freed, 1, 2);
+        getAll(freed, 1);
+        freed.drop(0, 1);
+        dueGone("CLOCK a freed place has no mark", putAll(freed, 3, 4), NONE, 3);
         PolicyRack one = rackWith(CLOCK, 1);
         putAll(one, 1, 1);
         dueGone("CLOCK of one", putAll(one, 2), 1);
@@ -289,13 +295,42 @@ public final class PromisesTest {
         CHECK.due("4 LISTS t 1 again", () -> rack.told(0, 7), 1);
         dueGone("LISTS 2 by 1", putAll(rack, 5), 1);
         CHECK.due("4 LISTS t by a quotient, at most c", () -> rack.told(0, 7), 3);
-        dueGone("LISTS just t in (2)", putAll(rack, 2), 4);
-        CHECK.due("4 LISTS t less 1", () -> rack.told(0, 7), 2);
         PolicyRack one = rackWith(LISTS, 1);
         dueGone("LISTS of one", putAll(one, 1, 2), NONE, 1);
         getAll(one, 2);
         dueGone("LISTS of one, TWICE", putAll(one, 3, 2, 3), 2, 3, 2);
         CHECK.due("4 LISTS of one, t at most c", () -> one.told(0, 7), 1);
+    }
+
+    private static void promise4PutListsJustTarget() {
+        PolicyRack rack = rackWith(LISTS, 3);
+        putAll(rack, 1, 2, 3);
+        getAll(rack, 1, 2);
+        putAll(rack, 4, 3);
+        CHECK.due("7 LISTS just t in (3)", () -> rack.victim(0), 2);
+        dueGone("LISTS just t in (3)", putAll(rack, 5), 2);
+        dueGone("LISTS more than t in (3)", putAll(rack, 6), 4);
+        dueGone("LISTS less than t in (1)", putAll(rack, 4), 3);
+        CHECK.due("4 LISTS t by the quotient of ghosts", () -> rack.told(0, 7), 3);
+        dueList("4 LISTS ghosts of TWICE in order", rack, 3, 1, 2, 3);
+        dueGone("LISTS just t in (2)", putAll(rack, 1), 5);
+        CHECK.due("4 LISTS t less 1", () -> rack.told(0, 7), 2);
+        getAll(rack, 4);
+        dueList("4 LISTS used is the latest of TWICE", rack, 1, 1, 4);
+        dueList("4 LISTS ONCE is left alone", rack, 0, 6);
+        PolicyRack none = rackWith(LISTS, 2);
+        putAll(none, 1, 2);
+        getAll(none, 1, 2);
+        putAll(none, 3);
+        getAll(none, 3);
+        dueGone("LISTS just t in (2), but ONCE has none", putAll(none, 1), 2);
+        CHECK.due("4 LISTS t at least 0", () -> none.told(0, 7), 0);
+        PolicyRack one = rackWith(LISTS, 1);
+        putAll(one, 1);
+        getAll(one, 1);
+        putAll(one, 2, 1, 2, 3);
+        CHECK.due("7 LISTS t is c", () -> one.told(0, 7), 1);
+        CHECK.due("7 LISTS ONCE after all", () -> one.victim(0), 3);
     }
 
     private static void promise4PutWrong() {
@@ -517,6 +552,11 @@ public final class PromisesTest {
         for (int use : new int[] {-1, 9, 300, Integer.MIN_VALUE, Integer.MAX_VALUE}) {
             CHECK.due("12 no use " + use, () -> rack.distance(use), Check.ARGUMENT);
         }
+        PolicyRack anew = new PolicyRack();
+        useAll(anew, 1, 2, 3, 4);
+        anew.clear();
+        useAll(anew, 1, 1);
+        CHECK.due("12 what was cleared is not between", () -> anew.distance(1), 0);
         PolicyRack wide = new PolicyRack();
         for (int i = 0; i < 299; i++) {
             wide.use(i);
