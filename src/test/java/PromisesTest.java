@@ -337,7 +337,8 @@ public final class PromisesTest {
         PolicyRack rack = rackWith(FIRST, 1);
         wrongKeys("4", rack);
         CHECK.due("4 wrong calls change nothing", () -> rack.told(0, 2), 0);
-        CHECK.due("4 put is no hit", () -> rack.put(0, 1, 1) + rack.put(0, 1, 2) + rack.told(0, 4), -2);
+        putAll(rack, 1, 1);
+        CHECK.due("4 put is no hit", () -> rack.told(0, 4), 0);
         CHECK.due("4 put is no miss", () -> rack.told(0, 5), 0);
     }
 
