@@ -1,7 +1,8 @@
 /**
  * Each sentence of 'Terms' that names a boundary of a way, of GET, PUT or DROP, with answers
- * worked out by hand. At LISTS a comment tells the lists behind a call: ONCE / TWICE / ghosts of
- * ONCE / ghosts of TWICE, and the target.
+ * from the document's words. The long runs of LISTS come from a search, with a sketch of the
+ * document apart from the program, for the shortest run to that boundary; a comment tells the
+ * lists behind a call: ONCE / TWICE / ghosts of ONCE / ghosts of TWICE, and the target.
  */
 public final class WaysBoundsTest {
     private static final int NONE = PolicyRack.NONE;
