@@ -418,6 +418,18 @@ public final class WaysBoundsTest {
         most.goes(1, 5).told(7, 2); // 6 / 4 1 / 5 / 2 3: in (2)
         most.goes(5, 4).told(7, 3); // 6 / 1 5 / - / 2 3 4: 2 and 2 by 1 are more than 3
         most.list(0, 6).list(1, 1, 5).list(2).list(3, 2, 3, 4);
+        Sentence stays = sentence(4, "t becomes the lesser of c and t and the greater of 1",
+                "it is c before");
+        stays.shelf(LISTS, 6).putsAndGets(1, 2, 3).puts(4, 5, 6); // 4 5 6 / 1 2 3 / - / -, 0
+        stays.goes(7, 4).goes(4, 5).goes(5, 1).told(7, 2); // 6 7 / 2 3 4 5 / - / 1
+        stays.goes(8, 2).goes(9, 6).goes(10, 7); // 8 9 10 / 3 4 5 / 6 7 / 1 2
+        stays.goes(6, 3).told(7, 3); // 8 9 10 / 4 5 6 / 7 / 1 2 3
+        stays.goes(11, 4).goes(12, 8); // 9 10 11 12 / 5 6 / 7 8 / 1 2 3 4
+        stays.goes(7, 5).told(7, 5); // 9 10 11 12 / 6 7 / 8 / 1 2 3 4 5: 3 and 4 by 2
+        stays.goes(1, 9).told(7, 4); // 10 11 12 / 6 7 1 / 8 9 / 2 3 4 5
+        stays.goes(8, 6).told(7, 6); // 10 11 12 / 7 1 8 / 9 / 2 3 4 5 6: 4 and 4 by 2 are just 6
+        stays.goes(9, 7).told(7, 6); // 10 11 12 / 1 8 9 / - / 2 3 4 5 6 7: 6 and 5 by 1
+        stays.list(0, 10, 11, 12).list(1, 1, 8, 9).list(2).list(3, 2, 3, 4, 5, 6, 7);
         sentence(4, "t becomes the lesser of c and t and the greater of 1", "c is 1")
                 .shelf(LISTS, 1).putsAndGets(1).goes(2, 1).goes(1, 2).goes(2, 1).told(7, 1);
         Sentence least = sentence(4, "t becomes the greater of 0 and t less the greater of 1",
