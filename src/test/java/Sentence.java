@@ -1,5 +1,7 @@
 import java.util.ArrayList;
+import java.util.LinkedHashSet;
 import java.util.List;
+import java.util.Set;
 
 /**
  * A sentence of the document, with its promise's number, and calls on a new object that show
@@ -10,8 +12,10 @@ final class Sentence {
     private static final int[] LISTS_OF_WAY = {1, 1, 1, 1, 3, 4};
     private static final int MOST_LOOKED_AT = 6;
     private static final int NEW_KEY = 440;
+    private static final Set<Quote> TRIED = new LinkedHashSet<>();
 
     private final Check check;
+    private final Quote quote;
     private final String title;
     private final TextRack rack = new TextRack();
     private final List<String> all = new ArrayList<>();
@@ -20,8 +24,16 @@ final class Sentence {
 
     Sentence(Check check, int promise, String words, String tried) {
         this.check = check;
+        quote = new Quote(promise, words);
         String behind = tried.isEmpty() ? "" : " (" + tried + ")";
         title = "promise " + promise + " \"" + words + "\"" + behind + " ";
+    }
+
+    record Quote(int promise, String words) { }
+
+    /** What the sentences quote that have checked an answer so far. */
+    static Set<Quote> tried() {
+        return TRIED;
     }
 
     Sentence due(String call, int want) {
@@ -50,6 +62,7 @@ final class Sentence {
 
     private Sentence ask(String call, String want) {
         all.add(call);
+        TRIED.add(quote);
         check.same(title + call, rack.answer(call), want);
         return this;
     }
@@ -117,12 +130,17 @@ final class Sentence {
         return due("told(0, " + what + ")", want);
     }
 
-    /** The whole list: these keys, and none behind them. */
     Sentence list(int list, int... keys) {
+        return listOf(0, list, keys);
+    }
+
+    /** The whole list: these keys, and none behind them. */
+    Sentence listOf(int shelf, int list, int... keys) {
+        String call = "list(" + shelf + ", " + list + ", ";
         for (int i = 0; i < keys.length; i++) {
-            due("list(0, " + list + ", " + i + ")", keys[i]);
+            due(call + i + ")", keys[i]);
         }
-        return due("list(0, " + list + ", " + keys.length + ")", NONE);
+        return due(call + keys.length + ")", NONE);
     }
 
     /** Without the asides every later call would have answered the same. */

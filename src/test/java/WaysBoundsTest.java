@@ -287,7 +287,7 @@ public final class WaysBoundsTest {
         sentence(4, "the hand goes on to the next place (behind the last one the first)")
                 .shelf(CLOCK, 3).puts(1, 2, 3).goes(4, 1).goes(5, 2).told(7, 2).gets(3)
                 .victim(4).goes(6, 4).list(0, 6, 5, 3).told(7, 1);
-        sentence(4, "and the hand goes on", "from the last place")
+        sentence(4, "without a mark, and the hand goes on", "from the last place")
                 .shelf(CLOCK, 2).puts(1, 2).goes(3, 1).told(7, 1).goes(4, 2).told(7, 0).goes(5, 3);
         sentence(4, "as long as the place at the hand has a mark", "all have one: a whole turn")
                 .shelf(CLOCK, 3).puts(1, 2, 3).goes(4, 1).gets(4, 2, 3).victim(2).told(7, 1)
