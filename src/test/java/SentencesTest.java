@@ -1,6 +1,7 @@
 /**
  * The document from its first line on, the sentences that name no boundary: what is done in the
- * ordinary case, with answers worked out by hand. A comment tells the lists of LISTS behind a
+ * ordinary case, with answers worked out by hand (the row on which all six ways differ was found
+ * by a search with Model, and then followed by hand). A comment tells the lists of LISTS behind a
  * call: ONCE / TWICE / ghosts of ONCE / ghosts of TWICE, and the target.
  */
 public final class SentencesTest {
